@@ -1,0 +1,191 @@
+import java.util.NoSuchElementException;
+
+/** Promises 21 to 24: slips, lateness, what a slip carries. */
+final class LatenessTest {
+    private static final Class<NoSuchElementException> NONE = NoSuchElementException.class;
+    private static final Class<IllegalArgumentException> ARGUMENT = IllegalArgumentException.class;
+    private static final Class<IndexOutOfBoundsException> INDEX = IndexOutOfBoundsException.class;
+
+    public static void main(String[] args) {
+        slips();
+        chain();
+        neighbours();
+        cutTowardsZero();
+        held();
+        sameTick();
+        notOwned();
+        mostLate();
+        carries();
+        Check.end("LatenessTest");
+    }
+
+    /** Bells 50 to 50 and so many players more, player i having bell 50 + i. */
+    private static WhiteclothTable table(int... leanings) {
+        WhiteclothTable t = new WhiteclothTable();
+        for (int i = 0; i < leanings.length; i++) {
+            t.setBell(50 + i, true);
+            t.addPlayer(9, leanings[i]);
+            t.give(50 + i, i);
+        }
+        return t;
+    }
+
+    private static void lates(WhiteclothTable t, int... due) {
+        for (int i = 0; i < due.length; i++) {
+            Check.same("lateOf " + i, t.lateOf(i), due[i]);
+        }
+    }
+
+    private static void slips() {
+        WhiteclothTable t = table(0);
+        Check.fails(t, "slip(0) of none", INDEX, () -> t.slip(0, 0));
+        t.note(0, 50, 1, 'r');
+        Check.same("slip(0, 50)", t.slip(0, 50), 0);
+        Check.same("slip(0, -50)", t.slip(0, -50), 50);
+        Check.fails(t, "slip(0, 51)", ARGUMENT, () -> t.slip(0, 51));
+        Check.fails(t, "slip(0, -51)", ARGUMENT, () -> t.slip(0, -51));
+        Check.fails(t, "slip(1, 51)", INDEX, () -> t.slip(1, 51));
+        Check.fails(t, "slip(-1, 0)", INDEX, () -> t.slip(-1, 0));
+        Check.same("slip(0, 1)", t.slip(0, 1), -50);
+    }
+
+    private static void chain() {
+        WhiteclothTable t = table(3);
+        t.note(0, 50, 1, 'r');
+        t.note(1, 50, 1, 'r');
+        t.note(2, 50, 1, 'r');
+        lates(t, 3, 4, 4);
+        t.slip(0, 20);
+        lates(t, 23, 10, 6);
+        t.slip(2, -30);
+        lates(t, 23, 10, -24);
+        Check.fails(t, "lateOf(3)", INDEX, () -> t.lateOf(3));
+        Check.fails(t, "lateOf(-1)", INDEX, () -> t.lateOf(-1));
+    }
+
+    private static void neighbours() {
+        WhiteclothTable t = table(0, 0, 0);
+        t.note(0, 50, 1, 'r');
+        t.note(1, 52, 1, 'r');
+        t.note(2, 51, 1, 'r');
+        t.note(3, 52, 1, 'r');
+        t.slip(0, 30);
+        t.slip(1, 12);
+        // Player 2 does not hear player 0; player 1 hears both.
+        lates(t, 30, 12, 14, 8);
+        t.swap(0, 1);
+        // Now the places are 1, 0, 2: player 2 hears player 0, player 1 hears player 0 alone.
+        lates(t, 30, 22, 10, 17);
+    }
+
+    private static void cutTowardsZero() {
+        WhiteclothTable t = table(0);
+        t.note(0, 50, 1, 'r');
+        t.note(1, 50, 1, 'r');
+        t.slip(0, -5);
+        lates(t, -5, -1);
+        t.slip(0, 5);
+        lates(t, 5, 1);
+        WhiteclothTable u = table(0, 0);
+        u.note(0, 50, 1, 'r');
+        u.note(0, 51, 1, 'r');
+        u.note(1, 51, 1, 'r');
+        u.slip(0, 2);
+        // The sum is cut, not its parts: 2 and 0, then 2 and 0.
+        lates(u, 2, 0, 0);
+        u.slip(1, 1);
+        lates(u, 2, 1, 1);
+    }
+
+    private static void held() {
+        WhiteclothTable t = table(3, 3, 3);
+        for (int i = 0; i < 4; i++) {
+            for (int p = 0; p < 3; p++) {
+                t.note(i, 50 + p, 1, 'r');
+            }
+        }
+        for (int i = 0; i < 12; i++) {
+            t.slip(i, 50);
+        }
+        Check.same("lateOf(10)", t.lateOf(10), 99);
+        WhiteclothTable u = table(-3, -3, -3);
+        for (int i = 0; i < 4; i++) {
+            for (int p = 0; p < 3; p++) {
+                u.note(i, 50 + p, 1, 'r');
+            }
+        }
+        for (int i = 0; i < 12; i++) {
+            u.slip(i, -50);
+        }
+        Check.same("lateOf(10)", u.lateOf(10), -99);
+        u.slip(10, 50);
+        // What is held is what others hear: (-99 - 99 - 96 or so) / 3 and on.
+        Check.yes("lateOf(11) is held at least", u.lateOf(11) >= -99);
+    }
+
+    private static void sameTick() {
+        WhiteclothTable t = table(0, 0);
+        t.note(0, 50, 1, 'r');
+        t.note(0, 51, 1, 'r');
+        t.slip(0, 9);
+        lates(t, 9, 3);
+        t.slip(0, 0);
+        t.slip(1, 9);
+        lates(t, 0, 9);
+    }
+
+    private static void notOwned() {
+        WhiteclothTable t = table(0, 0);
+        t.note(0, 50, 1, 'r');
+        t.note(1, 51, 1, 'r');
+        t.slip(0, 9);
+        t.give(50, -1);
+        Check.fails(t, "lateOf(0)", NONE, () -> t.lateOf(0));
+        Check.same("lateOf(1)", t.lateOf(1), 0);
+        Check.same("carries(0)", t.carries(0), 0);
+        Check.same("mostLate()", t.mostLate(), 1);
+    }
+
+    private static void mostLate() {
+        WhiteclothTable t = table(0, 0);
+        Check.fails(t, "mostLate() of none", NONE, () -> t.mostLate());
+        t.note(0, 50, 1, 'r');
+        t.note(10, 50, 1, 'r');
+        t.note(20, 51, 1, 'r');
+        Check.same("mostLate() of zeros", t.mostLate(), 0);
+        t.slip(0, 6);
+        t.slip(1, -20);
+        // 6, -18, -6
+        Check.same("mostLate(), early", t.mostLate(), 1);
+        t.slip(0, 18);
+        t.slip(1, -24);
+        Check.same("mostLate(), of like ones", t.mostLate(), 0);
+        t.give(50, -1);
+        Check.same("mostLate(), not owned", t.mostLate(), 2);
+        t.give(51, -1);
+        Check.fails(t, "mostLate() of nobody's", NONE, () -> t.mostLate());
+    }
+
+    private static void carries() {
+        WhiteclothTable t = table(0, 0, 0);
+        t.note(0, 50, 1, 'r');
+        t.note(1, 51, 1, 'r');
+        t.note(2, 52, 1, 'r');
+        t.note(3, 52, 1, 'r');
+        Check.same("carries(0) without a slip", t.carries(0), 0);
+        t.slip(0, 27);
+        // 27, 9, 3, (9 and 3) / 3 = 4
+        lates(t, 27, 9, 3, 4);
+        Check.same("carries(0)", t.carries(0), 3);
+        t.slip(0, 3);
+        lates(t, 3, 1, 0, 0);
+        Check.same("carries(0)", t.carries(0), 1);
+        t.slip(0, 2);
+        Check.same("carries(0)", t.carries(0), 0);
+        t.slip(3, 50);
+        Check.same("carries(3)", t.carries(3), 0);
+        Check.same("slip(3), still there", t.slip(3, 0), 50);
+        Check.fails(t, "carries(4)", INDEX, () -> t.carries(4));
+        Check.fails(t, "carries(-1)", INDEX, () -> t.carries(-1));
+    }
+}

@@ -1,0 +1,118 @@
+import java.util.NoSuchElementException;
+
+/** Promises 28 and 29: pages and their turns. */
+final class PagesTest {
+    private static final Class<NoSuchElementException> NONE = NoSuchElementException.class;
+    private static final Class<IllegalStateException> STATE = IllegalStateException.class;
+    private static final Class<IllegalArgumentException> ARGUMENT = IllegalArgumentException.class;
+    private static final Class<IndexOutOfBoundsException> INDEX = IndexOutOfBoundsException.class;
+
+    public static void main(String[] args) {
+        pages();
+        idlePlayer();
+        busyHands();
+        oneFreeTickIsTooShort();
+        lastTickOfTheWindow();
+        handsMayNotShare();
+        withoutPlan();
+        Check.end("PagesTest");
+    }
+
+    private static WhiteclothTable table() {
+        WhiteclothTable t = new WhiteclothTable();
+        t.addPlayer(9, 0);
+        for (int pitch = 40; pitch < 60; pitch++) {
+            t.setBell(pitch, true);
+            t.give(pitch, 0);
+        }
+        t.setRest(0);
+        return t;
+    }
+
+    private static void pages() {
+        WhiteclothTable t = table();
+        Check.fails(t, "turnOf(0, 0) without pages", INDEX, () -> t.turnOf(0, 0));
+        Check.fails(t, "endPage(-1)", ARGUMENT, () -> t.endPage(-1));
+        Check.fails(t, "endPage(401)", ARGUMENT, () -> t.endPage(401));
+        int[] ends = {400, 0, 6, 7, 7, 100, 3, 200};
+        int[] turns = {394, 0, 0, 1, 1, 94, 0, 194};
+        for (int i = 0; i < 8; i++) {
+            Check.same("endPage", t.endPage(ends[i]), i + 1);
+        }
+        Check.fails(t, "the 9th", STATE, () -> t.endPage(5));
+        Check.fails(t, "the 9th at 401", ARGUMENT, () -> t.endPage(401));
+        for (int i = 0; i < 8; i++) {
+            Check.same("turnOf(0, " + i + ")", t.turnOf(0, i), turns[i]);
+        }
+        Check.fails(t, "turnOf(0, 8)", INDEX, () -> t.turnOf(0, 8));
+        Check.fails(t, "turnOf(0, -1)", INDEX, () -> t.turnOf(0, -1));
+        Check.fails(t, "turnOf(1, 0)", INDEX, () -> t.turnOf(1, 0));
+        Check.fails(t, "turnOf(-1, 0)", INDEX, () -> t.turnOf(-1, 0));
+    }
+
+    private static void idlePlayer() {
+        WhiteclothTable t = table();
+        t.addPlayer(1, 0);
+        t.note(0, 40, 64, 's');
+        t.note(0, 41, 64, 's');
+        t.endPage(20);
+        Check.fails(t, "turnOf(0, 0)", NONE, () -> t.turnOf(0, 0));
+        Check.same("turnOf(1, 0)", t.turnOf(1, 0), 14);
+    }
+
+    private static void busyHands() {
+        WhiteclothTable t = table();
+        t.note(0, 40, 20, 'r');
+        t.note(0, 41, 16, 'r');
+        t.endPage(20);
+        Check.same("turnOf(0, 0)", t.turnOf(0, 0), 16);
+        t.endPage(10);
+        Check.same("turnOf(0, 1)", t.turnOf(0, 1), 16);
+        t.endPage(9);
+        Check.fails(t, "turnOf(0, 2)", NONE, () -> t.turnOf(0, 2));
+    }
+
+    private static void oneFreeTickIsTooShort() {
+        WhiteclothTable t = table();
+        t.note(0, 40, 40, 'r');
+        t.note(0, 41, 16, 'r');
+        t.note(17, 41, 2, 'r');
+        t.note(21, 41, 19, 'r');
+        t.endPage(20);
+        Check.same("turnOf(0, 0)", t.turnOf(0, 0), 19);
+    }
+
+    private static void lastTickOfTheWindow() {
+        WhiteclothTable t = table();
+        t.note(0, 40, 40, 'r');
+        t.note(0, 41, 26, 'r');
+        t.note(28, 41, 12, 'r');
+        t.endPage(20);
+        Check.same("turnOf(0, 0)", t.turnOf(0, 0), 26);
+        t.endPage(19);
+        Check.fails(t, "turnOf(0, 1)", NONE, () -> t.turnOf(0, 1));
+    }
+
+    private static void handsMayNotShare() {
+        WhiteclothTable t = table();
+        t.note(0, 40, 16, 'r');
+        t.note(17, 40, 40, 'r');
+        t.note(0, 41, 17, 'r');
+        t.note(18, 41, 40, 'r');
+        t.endPage(20);
+        // Tick 16 is free in one hand, tick 17 in the other: neither has both.
+        Check.fails(t, "turnOf(0, 0)", NONE, () -> t.turnOf(0, 0));
+    }
+
+    private static void withoutPlan() {
+        WhiteclothTable t = table();
+        t.endPage(100);
+        t.note(0, 40, 5, 'r');
+        t.note(0, 41, 5, 'r');
+        t.note(0, 42, 5, 'r');
+        Check.fails(t, "turnOf(0, 0)", NONE, () -> t.turnOf(0, 0));
+        Check.fails(t, "turnOf(0, 1)", INDEX, () -> t.turnOf(0, 1));
+        t.give(42, -1);
+        Check.same("turnOf(0, 0)", t.turnOf(0, 0), 94);
+    }
+}

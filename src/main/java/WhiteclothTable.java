@@ -453,6 +453,20 @@ public final class WhiteclothTable {
         return index >= 0 && index < row.length ? row[index] : 0;
     }
 
+    /** The cell of a table, NEVER outside of it. */
+    private static int cell(int[][] table, int row, int column) {
+        if (row < 0 || row >= table.length || column < 0 || column >= table[row].length) {
+            return NEVER;
+        }
+        return table[row][column];
+    }
+
+    private static void setCell(int[][] table, int row, int column, int value) {
+        if (row >= 0 && row < table.length && column >= 0 && column < table[row].length) {
+            table[row][column] = value;
+        }
+    }
+
     private Bell bellAt(int pitch) {
         if (pitch < 0 || pitch >= bells.length) {
             throw new IllegalArgumentException("no such pitch");
@@ -731,44 +745,49 @@ public final class WhiteclothTable {
 
     /** Finds the best plan of two hands for a row of notes, which are added by order. */
     private static final class Planner {
-        private final ArrayList<Note> row = new ArrayList<>();
+        private final int[] starts = new int[MOST_NOTES];
+        private final int[] ends = new int[MOST_NOTES];
+        private final int[] pitches = new int[MOST_NOTES];
         private final int[] hands = new int[MOST_NOTES];
         /** The least changes still to come, by the last note of all and, one up, that of the other hand. */
         private final int[][] least = new int[MOST_NOTES][MOST_NOTES + 1];
+        private int count;
         private int rest;
 
         void begin(int restThen) {
-            row.clear();
+            count = 0;
             rest = restThen;
         }
 
         void add(Note note) {
-            if (row.size() < MOST_NOTES) {
-                row.add(note);
+            if (count < starts.length) {
+                starts[count] = note.tick;
+                ends[count] = note.end;
+                pitches[count] = note.pitch;
+                count++;
             }
         }
 
         /** The changes of the best plan, NEVER if there is none. */
         int leastChanges() {
-            if (row.isEmpty()) {
+            if (count == 0) {
                 return 0;
             }
-            for (int last = row.size() - 1; last >= 0; last--) {
-                for (int other = NO_NOTE; other < last; other++) {
-                    int here = last + 1 >= row.size() ? 0 : Math.min(goingOn(last, other), goingOver(last, other));
-                    setLeast(last, other, here);
-                }
+            for (int other = NO_NOTE; other < count - 1; other++) {
+                setCell(least, count - 1, other + 1, 0);
             }
-            return leastBehind(0, NO_NOTE);
+            for (int last = count - 2; last >= 0; last--) {
+                reckonRow(last);
+            }
+            return cell(least, 0, 0);
         }
 
         /** Picks the hands of the best plan; wants leastChanges() to have found that there is one. */
         void chooseHands() {
-            Arrays.fill(hands, 0);
             int last = 0;
             int other = NO_NOTE;
             int hand = 0;
-            for (int next = 1; next < row.size() && next < hands.length; next++) {
+            for (int next = 1; next < count; next++) {
                 int chosen = handBehind(last, other, hand);
                 if (chosen != hand) {
                     other = last;
@@ -780,9 +799,9 @@ public final class WhiteclothTable {
         }
 
         int handFor(Note note) {
-            for (int i = 0; i < row.size(); i++) {
-                if (row.get(i) == note) {
-                    return entry(hands, i);
+            for (int i = 0; i < count; i++) {
+                if (starts[i] == note.tick && pitches[i] == note.pitch) {
+                    return hands[i];
                 }
             }
             return 0;
@@ -800,8 +819,8 @@ public final class WhiteclothTable {
 
         private boolean handHolds(int hand) {
             int before = NO_NOTE;
-            for (int i = 0; i < row.size(); i++) {
-                if (entry(hands, i) == hand) {
+            for (int i = 0; i < count; i++) {
+                if (hands[i] == hand) {
                     if (step(before, i) >= NEVER) {
                         return false;
                     }
@@ -812,58 +831,42 @@ public final class WhiteclothTable {
         }
 
         private boolean isFree(int hand, int tick) {
-            for (int i = 0; i < row.size(); i++) {
-                if (entry(hands, i) == hand && row.get(i).isIn(tick)) {
+            for (int i = 0; i < count; i++) {
+                if (hands[i] == hand && tick >= starts[i] && tick < ends[i]) {
                     return false;
                 }
             }
             return true;
         }
 
-        private void setLeast(int last, int other, int changes) {
-            if (last >= 0 && last < least.length && other + 1 >= 0 && other + 1 < least[last].length) {
-                least[last][other + 1] = changes;
+        /** Reckons for one last note and every last note of the other hand, from what is known of the next note. */
+        private void reckonRow(int last) {
+            int on = step(last, last + 1);
+            int behindOver = cell(least, last + 1, last + 1);
+            for (int other = NO_NOTE; other < last; other++) {
+                int goingOn = on + cell(least, last + 1, other + 1);
+                int goingOver = step(other, last + 1) + behindOver;
+                setCell(least, last, other + 1, Math.min(NEVER, Math.min(goingOn, goingOver)));
             }
-        }
-
-        private int leastBehind(int last, int other) {
-            if (last < 0 || last >= least.length || other + 1 < 0 || other + 1 >= least[last].length) {
-                return NEVER;
-            }
-            return least[last][other + 1];
-        }
-
-        /** The changes from here on if the hand of the last note gets the next one. */
-        private int goingOn(int last, int other) {
-            return Math.min(NEVER, step(last, last + 1) + leastBehind(last + 1, other));
-        }
-
-        /** The changes from here on if the other hand gets the next one. */
-        private int goingOver(int last, int other) {
-            return Math.min(NEVER, step(other, last + 1) + leastBehind(last + 1, last));
         }
 
         /** The changes when one hand rings two notes in turn, NEVER if it cannot. */
         private int step(int from, int to) {
-            if (to < 0 || to >= row.size()) {
-                return NEVER;
+            if (from < 0 || to < 0 || from >= count || to >= count) {
+                return from < 0 ? 0 : NEVER;
             }
-            if (from < 0 || from >= row.size()) {
-                return 0;
-            }
-            Note before = row.get(from);
-            Note next = row.get(to);
-            boolean isUnlike = before.pitch != next.pitch;
-            int ready = before.end + (isUnlike ? rest : 0);
-            if (next.tick < ready) {
+            boolean isUnlike = pitches[from] != pitches[to];
+            int ready = ends[from] + (isUnlike ? rest : 0);
+            if (starts[to] < ready) {
                 return NEVER;
             }
             return isUnlike ? 1 : 0;
         }
 
+        /** The hand for the next note; the one of the last note goes on with it, or the other hand does. */
         private int handBehind(int last, int other, int hand) {
-            int on = goingOn(last, other);
-            int over = goingOver(last, other);
+            int on = step(last, last + 1) + cell(least, last + 1, other + 1);
+            int over = step(other, last + 1) + cell(least, last + 1, last + 1);
             if (on == over) {
                 return 0;
             }
@@ -903,15 +906,15 @@ public final class WhiteclothTable {
                     reckonCost(place, from, changeWeight);
                 }
             }
-            return costFrom(0, 0);
+            return cell(costs, 0, 0);
         }
 
         /** Gives the bells of the best deal their places; wants leastCost() to have found that there is one. */
         void choosePlaces() {
             Arrays.fill(placeOfPitch, NOBODY);
             int from = 0;
-            for (int place = 0; place < playerCount && place < lasts.length && from < bellCount; place++) {
-                int last = entry(lasts[place], from);
+            for (int place = 0; place < playerCount && from < bellCount; place++) {
+                int last = cell(lasts, place, from);
                 for (int bell = from; bell <= last && bell < bellCount; bell++) {
                     setPlace(entry(pitches, bell), place);
                 }
@@ -951,17 +954,13 @@ public final class WhiteclothTable {
         }
 
         private void reckonRowsFrom(int from, ArrayList<Note> score, int rest) {
-            if (from < 0 || from >= changesOfRow.length) {
-                return;
-            }
-            int[] changesTo = changesOfRow[from];
             int found = 0;
-            for (int to = from; to < bellCount && to < changesTo.length; to++) {
+            for (int to = from; to < bellCount; to++) {
                 // Where there is no plan, one more bell gives none: it need not be looked for.
                 if (found < NEVER) {
                     found = changesBetween(entry(pitches, from), entry(pitches, to), score, rest);
                 }
-                changesTo[to] = found;
+                setCell(changesOfRow, from, to, found);
             }
         }
 
@@ -977,27 +976,18 @@ public final class WhiteclothTable {
         }
 
         private void reckonCost(int place, int from, int changeWeight) {
-            if (place < 0 || place >= costs.length || from < 0 || from >= costs[place].length) {
-                return;
-            }
-            costs[place][from] = from >= bellCount ? 0 : NEVER;
-            if (from >= bellCount || !canLift(place, from)) {
-                return;
-            }
-            // From the longest row down, so that of like costs this player gets the most.
-            for (int to = bellCount - 1; to >= from; to--) {
-                int cost = costOfRow(from, to, changeWeight) + costFrom(place + 1, to + 1);
-                if (cost < costs[place][from]) {
-                    costs[place][from] = cost;
-                    setLast(place, from, to);
+            int least = from >= bellCount ? 0 : NEVER;
+            if (from < bellCount && canLift(place, from)) {
+                // From the longest row down, so that of like costs this player gets the most.
+                for (int to = bellCount - 1; to >= from; to--) {
+                    int cost = costOfRow(from, to, changeWeight) + cell(costs, place + 1, to + 1);
+                    if (cost < least) {
+                        least = cost;
+                        setCell(lasts, place, from, to);
+                    }
                 }
             }
-        }
-
-        private void setLast(int place, int from, int to) {
-            if (place >= 0 && place < lasts.length && from >= 0 && from < lasts[place].length) {
-                lasts[place][from] = to;
-            }
+            setCell(costs, place, from, least);
         }
 
         /** Whether a player is there who lifts the bell; the ones above it weigh no more. */
@@ -1006,18 +996,8 @@ public final class WhiteclothTable {
         }
 
         private int costOfRow(int from, int to, int changeWeight) {
-            if (from < 0 || from >= changesOfRow.length || to < 0 || to >= changesOfRow[from].length
-                    || changesOfRow[from][to] >= NEVER) {
-                return NEVER;
-            }
-            return changesOfRow[from][to] * changeWeight + 1;
-        }
-
-        private int costFrom(int place, int from) {
-            if (place < 0 || place >= costs.length || from < 0 || from >= costs[place].length) {
-                return NEVER;
-            }
-            return costs[place][from];
+            int changes = cell(changesOfRow, from, to);
+            return changes < NEVER ? changes * changeWeight + 1 : NEVER;
         }
     }
 }

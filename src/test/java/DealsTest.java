@@ -170,6 +170,8 @@ final class DealsTest {
         }
         // Each bell once: so many changes as bells beyond two for each of twelve players.
         Check.same("deal()", t.deal(), 36);
+        Check.same("ownerOf(0)", t.ownerOf(0), 0);
+        Check.same("ownerOf(59)", t.ownerOf(59), 11);
         Check.same("ownerOf(37)", t.ownerOf(37), 0);
         Check.same("ownerOf(38)", t.ownerOf(38), 1);
         Check.same("ownerOf(57)", t.ownerOf(57), 10);

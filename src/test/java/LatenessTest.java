@@ -12,6 +12,7 @@ final class LatenessTest {
         neighbours();
         cutTowardsZero();
         held();
+        heldIsWhatOthersHear();
         sameTick();
         notOwned();
         mostLate();
@@ -19,7 +20,7 @@ final class LatenessTest {
         Check.end("LatenessTest");
     }
 
-    /** Bells 50 to 50 and so many players more, player i having bell 50 + i. */
+    /** A player for each leaning, player i having bell 50 + i. */
     private static WhiteclothTable table(int... leanings) {
         WhiteclothTable t = new WhiteclothTable();
         for (int i = 0; i < leanings.length; i++) {
@@ -118,9 +119,36 @@ final class LatenessTest {
             u.slip(i, -50);
         }
         Check.same("lateOf(10)", u.lateOf(10), -99);
-        u.slip(10, 50);
-        // What is held is what others hear: (-99 - 99 - 96 or so) / 3 and on.
-        Check.yes("lateOf(11) is held at least", u.lateOf(11) >= -99);
+        for (int i = 1; i < 12; i++) {
+            t.slip(i, 0);
+            u.slip(i, 0);
+        }
+        // 53, then 53 / 3 + 3, and so on: nothing is held any more.
+        lates(t, 53, 20, 9);
+        lates(u, -53, -20, -9);
+    }
+
+    private static void heldIsWhatOthersHear() {
+        WhiteclothTable t = table(3);
+        for (int i = 0; i < 6; i++) {
+            t.note(i, 50, 1, 'r');
+            t.slip(i, 50);
+        }
+        // One player alone comes up to 79 only: 53, 53 / 3 + 53, 70 / 3 + 53 ..
+        lates(t, 53, 70, 76, 78, 79, 79);
+        WhiteclothTable u = table(3, 3, 3);
+        for (int i = 0; i < 3; i++) {
+            for (int p = 0; p < 3; p++) {
+                u.note(i, 50 + p, 1, 'r');
+                u.slip(u.notes() - 1, 50);
+            }
+        }
+        u.note(3, 51, 1, 'r');
+        // 53, 70, 76 | (53 + 70) / 3 + 53, (94 + 70 + 76) / 3 + 53 held, and so on, till each of three is 99.
+        lates(u, 53, 70, 76, 94, 99, 99, 99, 99, 99);
+        Check.same("lateOf(9)", u.lateOf(9), 99);
+        u.slip(9, -50);
+        Check.same("lateOf(9)", u.lateOf(9), 99 + 3 - 50);
     }
 
     private static void sameTick() {
@@ -144,6 +172,13 @@ final class LatenessTest {
         Check.same("lateOf(1)", t.lateOf(1), 0);
         Check.same("carries(0)", t.carries(0), 0);
         Check.same("mostLate()", t.mostLate(), 1);
+        t.give(50, 0);
+        t.slip(1, 5);
+        Check.same("carries(0), given again", t.carries(0), 1);
+        t.give(50, -1);
+        t.give(51, -1);
+        Check.same("carries(0), nobody's again", t.carries(0), 0);
+        Check.same("carries(1), nobody's again", t.carries(1), 0);
     }
 
     private static void mostLate() {

@@ -12,6 +12,7 @@ final class PagesTest {
         idlePlayer();
         busyHands();
         oneFreeTickIsTooShort();
+        eitherHand();
         lastTickOfTheWindow();
         handsMayNotShare();
         withoutPlan();
@@ -80,6 +81,27 @@ final class PagesTest {
         t.note(21, 41, 19, 'r');
         t.endPage(20);
         Check.same("turnOf(0, 0)", t.turnOf(0, 0), 19);
+    }
+
+    /** The note that begins first is in hand 0, so that the free hand is 0 at first, then 1. */
+    private static void eitherHand() {
+        for (int free = 40; free < 42; free++) {
+            WhiteclothTable t = table();
+            int busy = 81 - free;
+            t.note(0, busy, 50, 'r');
+            t.note(0, free, 14, 'r');
+            t.note(15, free, 3, 'r');
+            t.note(20, free, 30, 'r');
+            t.endPage(20);
+            Check.same("handOf(0)", t.handOf(0), 0);
+            Check.same("turnOf(0, 0)", t.turnOf(0, 0), 18);
+            t.drop(free == 40 ? 0 : 1);
+            t.note(0, free, 15, 'r');
+            Check.same("turnOf(0, 0)", t.turnOf(0, 0), 18);
+            t.drop(3);
+            t.note(19, free, 30, 'r');
+            Check.fails(t, "turnOf(0, 0)", NONE, () -> t.turnOf(0, 0));
+        }
     }
 
     private static void lastTickOfTheWindow() {

@@ -114,6 +114,18 @@ final class SoundsTest {
             int rest = apart % 12;
             Check.same("clashes() " + apart + " apart", t.clashes(), rest == 1 || rest == 6 || rest == 11 ? 1 : 0);
         }
+        WhiteclothTable all = table();
+        for (int low = 0; low < 59; low++) {
+            all.note(5, low, 1, 'r');
+            for (int high = low + 1; high < 60 && high < low + 13; high++) {
+                all.note(5, high, 1, 'r');
+                int apart = high - low;
+                Check.same("clashes() of " + low + " and " + high, all.clashes(),
+                        apart == 1 || apart == 6 || apart == 11 ? 1 : 0);
+                all.drop(1);
+            }
+            all.drop(0);
+        }
         for (int low = 0; low < 54; low++) {
             WhiteclothTable t = table();
             t.note(5, low, 1, 'r');

@@ -750,7 +750,7 @@ public final class WhiteclothTable {
         private final int[] pitches = new int[MOST_NOTES];
         private final int[] hands = new int[MOST_NOTES];
         /** The least changes still to come, by the last note of all and, one up, that of the other hand. */
-        private final int[][] least = new int[MOST_NOTES][MOST_NOTES + 1];
+        private final int[][] least = new int[MOST_NOTES][MOST_NOTES];
         private int count;
         private int rest;
 

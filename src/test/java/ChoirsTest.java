@@ -32,6 +32,14 @@ final class ChoirsTest {
         Check.same("spread()", t.spread(), 699);
         Check.fails(t, "aheadOf(6)", INDEX, () -> t.aheadOf(6));
         Check.fails(t, "aheadOf(-1)", INDEX, () -> t.aheadOf(-1));
+        WhiteclothTable u = new WhiteclothTable();
+        u.addChoir(9, 200);
+        u.addChoir(1, 100);
+        u.addChoir(2, 100);
+        Check.same("spread(), the first one latest", u.spread(), 308);
+        Check.same("aheadOf(0)", u.aheadOf(0), 308);
+        Check.same("aheadOf(1)", u.aheadOf(1), 0);
+        Check.same("aheadOf(2)", u.aheadOf(2), 1);
         Check.end("ChoirsTest");
     }
 }

@@ -220,6 +220,17 @@ final class LatenessTest {
         t.slip(3, 50);
         Check.same("carries(3)", t.carries(3), 0);
         Check.same("slip(3), still there", t.slip(3, 0), 50);
+        t.slip(0, 3);
+        t.drop(1);
+        t.slip(1, 2);
+        t.note(4, 51, 1, 'r');
+        // 3, 2, 2 / 3 = 0, (3 + 0) / 3 = 1; without the slip of the first one the last one is 0.
+        lates(t, 3, 2, 0, 1);
+        Check.same("carries(0)", t.carries(0), 1);
+        t.slip(2, 2);
+        // 3, 2, 2, (3 + 2) / 3 = 1, or 2 / 3 = 0.
+        Check.same("carries(0)", t.carries(0), 1);
+        Check.same("carries(1)", t.carries(1), 0);
         Check.fails(t, "carries(4)", INDEX, () -> t.carries(4));
         Check.fails(t, "carries(-1)", INDEX, () -> t.carries(-1));
     }

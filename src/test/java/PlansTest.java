@@ -92,6 +92,9 @@ final class PlansTest {
         t.note(4, 42, 1, 'r');
         Check.no("hasPlan(0)", t.hasPlan(0));
         t.addPlayer(9, 0);
+        Check.yes("hasPlan(1) without notes", t.hasPlan(1));
+        Check.no("hasPlan(0)", t.hasPlan(0));
+        Check.same("changes(1) without notes", t.changes(1), 0);
         t.give(42, 1);
         Check.yes("hasPlan(0)", t.hasPlan(0));
         Check.yes("hasPlan(1)", t.hasPlan(1));

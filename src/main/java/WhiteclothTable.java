@@ -546,7 +546,7 @@ public final class WhiteclothTable {
         return load;
     }
 
-    /** Fills a row with the lateness of each note, 0 for one that nobody has; one note may be taken without its slip. */
+    /** Fills a row with the lateness of each note, 0 where nobody has its bell; one may be taken without its slip. */
     private void reckonLates(int[] row, int without) {
         Arrays.fill(latestOfPlace, 0);
         for (int i = 0; i < score.size() && i < row.length; i++) {

@@ -26,6 +26,14 @@ final class Check {
         }
     }
 
+    static void same(String call, String got, String due) {
+        asked++;
+        if (!got.equals(due)) {
+            wrong++;
+            System.out.println(call + ": " + got + ", due is " + due);
+        }
+    }
+
     static void yes(String call, boolean got) {
         same(call, got ? 1 : 0, 1);
     }

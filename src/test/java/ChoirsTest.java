@@ -40,6 +40,63 @@ final class ChoirsTest {
         Check.same("aheadOf(0)", u.aheadOf(0), 308);
         Check.same("aheadOf(1)", u.aheadOf(1), 0);
         Check.same("aheadOf(2)", u.aheadOf(2), 1);
+        everyLag();
+        everyMetre();
+        twoAlike();
+        firstOneIsTheFirstToSound();
         Check.end("ChoirsTest");
+    }
+
+    private static void everyLag() {
+        for (int lag = 0; lag <= 99; lag++) {
+            WhiteclothTable t = new WhiteclothTable();
+            Check.same("addChoir", t.addChoir(0, 0), 0);
+            Check.same("addChoir of lag " + lag, t.addChoir(lag, 0), 1);
+            Check.same("aheadOf(1)", t.aheadOf(1), lag);
+            Check.same("spread()", t.spread(), lag);
+        }
+    }
+
+    private static void everyMetre() {
+        for (int metres = 0; metres <= 200; metres++) {
+            WhiteclothTable t = new WhiteclothTable();
+            Check.same("addChoir " + metres + " away", t.addChoir(99, metres), 0);
+            Check.same("spread() of one", t.spread(), 0);
+            Check.same("aheadOf(0) of one", t.aheadOf(0), 0);
+            Check.same("addChoir", t.addChoir(99, 0), 1);
+            Check.same("aheadOf(0)", t.aheadOf(0), 3 * metres);
+            Check.same("aheadOf(1)", t.aheadOf(1), 0);
+            Check.same("spread()", t.spread(), 3 * metres);
+        }
+    }
+
+    private static void twoAlike() {
+        WhiteclothTable t = new WhiteclothTable();
+        t.addChoir(99, 200);
+        t.addChoir(99, 200);
+        Check.same("spread() of two alike", t.spread(), 0);
+        t.addChoir(96, 199);
+        t.addChoir(99, 199);
+        // 699, 699, 693, 696.
+        Check.same("spread()", t.spread(), 6);
+        Check.same("aheadOf(1)", t.aheadOf(1), 6);
+        Check.same("aheadOf(2)", t.aheadOf(2), 0);
+        Check.same("aheadOf(3)", t.aheadOf(3), 3);
+    }
+
+    /** Each choir that sounds ahead of all others has every other one ahead by more. */
+    private static void firstOneIsTheFirstToSound() {
+        WhiteclothTable t = new WhiteclothTable();
+        int first = 699;
+        int[] lags = {99, 90, 60, 40, 20, 0};
+        int[] metres = {200, 150, 151, 90, 80, 81};
+        for (int i = 0; i < 6; i++) {
+            t.addChoir(lags[i], metres[i]);
+            first = Math.min(first, lags[i] + 3 * metres[i]);
+            for (int j = 0; j <= i; j++) {
+                Check.same("aheadOf " + j + " of " + (i + 1), t.aheadOf(j), lags[j] + 3 * metres[j] - first);
+            }
+            Check.same("spread() of " + (i + 1), t.spread(), 699 - first);
+        }
     }
 }

@@ -14,7 +14,12 @@ final class PagesTest {
         oneFreeTickIsTooShort();
         eitherHand();
         lastTickOfTheWindow();
+        everyTickOfTheWindow();
+        windowBeginsAtZero();
+        lastPageBehindTheLastFirstTick();
         handsMayNotShare();
+        bestPlanDecides();
+        restIsFree();
         withoutPlan();
         Check.end("PagesTest");
     }
@@ -113,6 +118,99 @@ final class PagesTest {
         Check.same("turnOf(0, 0)", t.turnOf(0, 0), 26);
         t.endPage(19);
         Check.fails(t, "turnOf(0, 1)", NONE, () -> t.turnOf(0, 1));
+    }
+
+    /** A hand that is free in two ticks alone turns there if the first one is 6 ahead of the end to 6 behind it. */
+    private static void everyTickOfTheWindow() {
+        for (int end : new int[] {12, 100, 390}) {
+            for (int free = end - 9; free <= end + 9; free++) {
+                WhiteclothTable t = twoTicksFree(free, 2);
+                t.endPage(end);
+                if (free >= end - 6 && free <= end + 6) {
+                    Check.same("turnOf, end " + end + ", free at " + free, t.turnOf(0, 0), free);
+                } else {
+                    Check.fails(t, "turnOf, end " + end + ", free at " + free, NONE, () -> t.turnOf(0, 0));
+                }
+                WhiteclothTable u = twoTicksFree(free, 1);
+                u.endPage(end);
+                Check.fails(u, "turnOf, one tick free at " + free, NONE, () -> u.turnOf(0, 0));
+            }
+        }
+    }
+
+    /** Hand 0 is busy around, hand 1 all but so many ticks from one on. */
+    private static WhiteclothTable twoTicksFree(int free, int ticks) {
+        WhiteclothTable t = table();
+        int first = Math.max(0, free - 30);
+        t.note(first, 40, 60, 'r');
+        if (free > first) {
+            t.note(first, 41, free - first, 'r');
+        }
+        if (free + ticks <= 400) {
+            t.note(free + ticks, 41, 30, 'r');
+        }
+        return t;
+    }
+
+    /** Ahead of tick 0 there is nothing: pages that end at 0 to 6 are turned from 0 on, the next one from 1 on. */
+    private static void windowBeginsAtZero() {
+        for (int end = 0; end <= 8; end++) {
+            WhiteclothTable idle = table();
+            idle.endPage(end);
+            Check.same("turnOf, end " + end, idle.turnOf(0, 0), end <= 6 ? 0 : end - 6);
+            for (int free = 0; free <= end + 7; free++) {
+                WhiteclothTable t = twoTicksFree(free, 2);
+                t.endPage(end);
+                if (free >= end - 6 && free <= end + 6) {
+                    Check.same("turnOf, end " + end + ", free at " + free, t.turnOf(0, 0), free);
+                } else {
+                    Check.fails(t, "turnOf, end " + end + ", free at " + free, NONE, () -> t.turnOf(0, 0));
+                }
+            }
+        }
+    }
+
+    private static void lastPageBehindTheLastFirstTick() {
+        for (int ends = 392; ends <= 408; ends++) {
+            WhiteclothTable t = table();
+            t.note(380, 40, 40, 'r');
+            t.note(380, 41, ends - 380, 'r');
+            t.endPage(400);
+            if (ends <= 406) {
+                Check.same("turnOf, hand 1 ends at " + ends, t.turnOf(0, 0), Math.max(394, ends));
+            } else {
+                Check.fails(t, "turnOf, hand 1 ends at " + ends, NONE, () -> t.turnOf(0, 0));
+            }
+        }
+    }
+
+    /** Two hands could take turns with one bell, but the best plan has hand 0 for all of it and leaves hand 1 free. */
+    private static void bestPlanDecides() {
+        WhiteclothTable t = table();
+        t.endPage(20);
+        for (int i = 0; i < 10; i++) {
+            t.note(10 + 3 * i, 40, 3, 'r');
+        }
+        Check.same("turnOf(0, 0)", t.turnOf(0, 0), 14);
+        t.note(12, 41, 3, 'r');
+        Check.same("turnOf(0, 0), hand 1 busy to 14", t.turnOf(0, 0), 15);
+        t.note(16, 41, 20, 'r');
+        Check.fails(t, "turnOf(0, 0), hand 1 free in tick 15 alone", NONE, () -> t.turnOf(0, 0));
+        t.drop(0);
+        t.drop(1);
+        // Without its notes at ticks 10 and 13, bell 40 leaves its hand free till 16.
+        Check.same("turnOf(0, 0), the hand of bell 40 free", t.turnOf(0, 0), 14);
+    }
+
+    /** The rest keeps a hand from a note, not from a page. */
+    private static void restIsFree() {
+        WhiteclothTable t = table();
+        t.setRest(8);
+        t.endPage(20);
+        t.note(0, 40, 60, 'r');
+        t.note(0, 41, 17, 'r');
+        t.note(25, 42, 20, 'r');
+        Check.same("turnOf(0, 0)", t.turnOf(0, 0), 17);
     }
 
     private static void handsMayNotShare() {

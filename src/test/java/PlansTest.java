@@ -8,12 +8,21 @@ final class PlansTest {
     public static void main(String[] args) {
         noPlayers();
         noNotes();
+        oneNote();
         restDecides();
+        everyRestToTheTick();
+        restAtFirst();
         sameBellNeedsNoRest();
+        likeAgainBehindAnother();
         threeAtOnce();
+        threeMeetInOneTick();
         fewestChanges();
+        changesCountEachHand();
+        oneNoteLaterDecides();
         tiesGoToHandZero();
+        tiesWhereTheFirstDifferenceCounts();
         notOwned();
+        othersNotesDoNotMatter();
         sixtyNotesOfOnePlayer();
         loads();
         Check.end("PlansTest");
@@ -71,6 +80,160 @@ final class PlansTest {
         t.note(10, 43, 1, 'r');
         Check.yes("hasPlan(0) at rest 0", t.hasPlan(0));
         Check.same("changes(0)", t.changes(0), 2);
+    }
+
+    private static void oneNote() {
+        WhiteclothTable t = table();
+        t.note(400, 59, 64, 'e');
+        Check.yes("hasPlan(0)", t.hasPlan(0));
+        Check.same("changes(0)", t.changes(0), 0);
+        Check.same("handOf(0)", t.handOf(0), 0);
+        Check.same("loadOf(0)", t.loadOf(0), 1);
+    }
+
+    /** Hand 0 is held by a long note, so that hand 1 has to go on with another bell. */
+    private static void everyRestToTheTick() {
+        for (int rest = 0; rest <= 8; rest++) {
+            for (int behind = 0; behind <= 9; behind++) {
+                WhiteclothTable t = table();
+                t.setRest(rest);
+                t.note(0, 40, 64, 'r');
+                t.note(1, 41, 5, 'r');
+                t.note(6 + behind, 42, 1, 'r');
+                String when = "hasPlan at rest " + rest + ", " + behind + " behind the end";
+                Check.same(when, t.hasPlan(0) ? 1 : 0, behind >= rest ? 1 : 0);
+                if (behind >= rest) {
+                    hands(t, 0, 1, 1);
+                    Check.same("changes(0)", t.changes(0), 1);
+                }
+            }
+            WhiteclothTable t = table();
+            t.setRest(rest);
+            t.note(0, 40, 64, 'r');
+            t.note(1, 41, 5, 'r');
+            t.note(5, 42, 1, 'r');
+            Check.no("hasPlan at rest " + rest + ", in the last tick", t.hasPlan(0));
+        }
+    }
+
+    private static void restAtFirst() {
+        WhiteclothTable t = table();
+        t.note(0, 40, 64, 'r');
+        t.note(0, 41, 5, 'r');
+        t.note(7, 42, 1, 'r');
+        Check.yes("hasPlan(0), 2 ticks behind", t.hasPlan(0));
+        t.drop(2);
+        t.note(6, 42, 1, 'r');
+        Check.no("hasPlan(0), 1 tick behind", t.hasPlan(0));
+        Check.same("setRest(1)", t.setRest(1), 2);
+        Check.yes("hasPlan(0), 1 tick behind at rest 1", t.hasPlan(0));
+    }
+
+    /** The rest hangs on the note ahead in the hand alone, not on an earlier one of the same bell. */
+    private static void likeAgainBehindAnother() {
+        WhiteclothTable t = table();
+        t.setRest(3);
+        t.note(0, 40, 40, 'r');
+        t.note(0, 41, 2, 'r');
+        t.note(2, 41, 2, 'r');
+        t.note(7, 42, 2, 'r');
+        t.note(12, 41, 2, 'r');
+        Check.same("changes(0)", t.changes(0), 2);
+        hands(t, 0, 1, 1, 1, 1);
+        t.setRest(4);
+        Check.no("hasPlan(0) at rest 4", t.hasPlan(0));
+        t.drop(3);
+        Check.same("changes(0) of one bell in each hand", t.changes(0), 0);
+    }
+
+    private static void threeMeetInOneTick() {
+        WhiteclothTable t = table();
+        t.setRest(0);
+        t.note(0, 40, 6, 'r');
+        t.note(1, 41, 5, 'r');
+        t.note(5, 42, 1, 'r');
+        Check.no("hasPlan(0), three in tick 5", t.hasPlan(0));
+        t.drop(2);
+        t.note(6, 42, 1, 'r');
+        Check.yes("hasPlan(0), two in tick 5", t.hasPlan(0));
+        hands(t, 0, 1, 0);
+        t.note(6, 43, 1, 'r');
+        Check.same("changes(0)", t.changes(0), 2);
+        hands(t, 0, 1, 0, 1);
+        t.note(6, 44, 1, 'd');
+        Check.no("hasPlan(0), three from tick 6 on", t.hasPlan(0));
+    }
+
+    private static void changesCountEachHand() {
+        WhiteclothTable t = table();
+        t.setRest(0);
+        int[] due = {0, 0, 2, 4, 6};
+        for (int i = 0; i < 4; i++) {
+            t.note(5 * i, 40 + 2 * i, 5, 'r');
+            t.note(5 * i, 41 + 2 * i, 5, 'r');
+            Check.same("changes(0), twos: " + (i + 1), t.changes(0), due[i + 1]);
+        }
+        hands(t, 0, 1, 0, 1, 0, 1, 0, 1);
+        t.note(20, 46, 1, 'r');
+        t.note(20, 47, 1, 'r');
+        Check.same("changes(0), both go on with their bells", t.changes(0), 6);
+    }
+
+    /** Keeping hand 0 free for bell 41, told later, changes the hands of what is ahead. */
+    private static void oneNoteLaterDecides() {
+        WhiteclothTable t = table();
+        t.note(0, 40, 2, 'r');
+        t.note(10, 41, 2, 'r');
+        t.note(20, 42, 2, 'r');
+        hands(t, 0, 0, 1);
+        t.note(30, 41, 2, 'r');
+        hands(t, 0, 0, 1, 0);
+        t.note(40, 40, 2, 'r');
+        Check.same("changes(0)", t.changes(0), 2);
+        hands(t, 0, 0, 1, 0, 0);
+        t.drop(3);
+        Check.same("changes(0)", t.changes(0), 1);
+        hands(t, 0, 1, 1, 0);
+    }
+
+    /** Both (0, 0, 1, 1) and (0, 1, 1, 0) have one change: the second note decides, whatever the last one has. */
+    private static void tiesWhereTheFirstDifferenceCounts() {
+        WhiteclothTable t = table();
+        t.note(0, 40, 1, 'r');
+        t.note(10, 41, 1, 'r');
+        t.note(20, 42, 1, 'r');
+        t.note(30, 42, 1, 'r');
+        Check.same("changes(0)", t.changes(0), 1);
+        hands(t, 0, 0, 1, 1);
+        WhiteclothTable u = table();
+        u.setRest(0);
+        u.note(0, 40, 10, 'r');
+        u.note(5, 41, 5, 'r');
+        u.note(10, 42, 5, 'r');
+        u.note(12, 43, 5, 'r');
+        // Both hands go on with other bells: the third note may take either, and takes hand 0.
+        Check.same("changes(0)", u.changes(0), 2);
+        hands(u, 0, 1, 0, 1);
+    }
+
+    private static void othersNotesDoNotMatter() {
+        WhiteclothTable t = table();
+        t.addPlayer(9, 0);
+        t.setRest(8);
+        for (int i = 0; i < 10; i++) {
+            t.give(50 + i, i < 5 ? 1 : -1);
+            t.note(0, 50 + i, 64, 'r');
+        }
+        t.note(0, 40, 3, 'r');
+        t.note(1, 41, 3, 'r');
+        Check.yes("hasPlan(0) beside a player without one", t.hasPlan(0));
+        Check.no("hasPlan(1)", t.hasPlan(1));
+        Check.same("changes(0)", t.changes(0), 0);
+        Check.same("handOf(0)", t.handOf(0), 0);
+        Check.same("handOf(11)", t.handOf(11), 1);
+        Check.fails(t, "changes(1)", NONE, () -> t.changes(1));
+        Check.fails(t, "handOf(1) of player 1", NONE, () -> t.handOf(1));
+        Check.fails(t, "handOf(10) of nobody", NONE, () -> t.handOf(10));
     }
 
     private static void sameBellNeedsNoRest() {

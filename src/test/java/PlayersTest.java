@@ -7,10 +7,15 @@ final class PlayersTest {
 
     public static void main(String[] args) {
         adding();
+        everyStrengthAndLeaning();
         swapping();
+        swappingEveryTwo();
+        addingBehindASwap();
         givingByWeight();
         giving();
+        givingKeepsTheRest();
         rests();
+        everyRest();
         Check.end("PlayersTest");
     }
 
@@ -26,6 +31,95 @@ final class PlayersTest {
         }
         Check.fails(t, "the 13th", STATE, () -> t.addPlayer(1, 0));
         Check.fails(t, "the 13th, strength 0", ARGUMENT, () -> t.addPlayer(0, 0));
+    }
+
+    /** The strength shows in the heaviest bell that can be given, the leaning in a note alone. */
+    private static void everyStrengthAndLeaning() {
+        for (int strength = 1; strength <= 9; strength++) {
+            for (int leaning = -3; leaning <= 3; leaning++) {
+                WhiteclothTable t = Tables.withBells(Traces.HEAVIEST);
+                String who = "player of " + strength + ", " + leaning;
+                Check.same(who, t.addPlayer(strength, leaning), 0);
+                for (int weight = 1; weight <= 9; weight++) {
+                    int pitch = Traces.HEAVIEST[9 - weight];
+                    if (weight > strength) {
+                        Check.fails(t, "give " + pitch + " to the " + who, UNSUPPORTED, () -> t.give(pitch, 0));
+                    } else {
+                        Check.same("give " + pitch + " to the " + who, t.give(pitch, 0), -1);
+                    }
+                }
+                t.note(0, 53, 1, 'r');
+                Check.same("lateOf, " + who, t.lateOf(0), leaning);
+            }
+        }
+    }
+
+    private static void swappingEveryTwo() {
+        for (int one = 0; one < 12; one++) {
+            WhiteclothTable t = new WhiteclothTable();
+            for (int i = 0; i < 12; i++) {
+                t.addPlayer(1, 0);
+            }
+            for (int two = 0; two < 12; two++) {
+                String call = "swap(" + one + ", " + two + ")";
+                Check.same(call, t.swap(one, two), two);
+                Check.same("placeOf the first, " + call, t.placeOf(one), two);
+                Check.same("placeOf the second, " + call, t.placeOf(two), one == two ? two : one);
+                int beside = (Math.max(one, two) + 1) % 12;
+                if (beside != one && beside != two) {
+                    Check.same("placeOf another, " + call, t.placeOf(beside), beside);
+                }
+                Check.yes("isTrue(), " + call, t.isTrue());
+                Check.same("back, " + call, t.swap(one, two), one);
+            }
+            for (int i = 0; i < 12; i++) {
+                Check.same("placeOf " + i, t.placeOf(i), i);
+            }
+        }
+    }
+
+    private static void addingBehindASwap() {
+        WhiteclothTable t = new WhiteclothTable();
+        Check.same("addPlayer", t.addPlayer(1, 0), 0);
+        Check.same("swap(0, 0) of one", t.swap(0, 0), 0);
+        for (int i = 1; i < 12; i++) {
+            Check.same("addPlayer", t.addPlayer(1, 0), i);
+            Check.same("placeOf the new one", t.placeOf(i), i);
+            Check.same("swap with the first one", t.swap(i, 0), i - 1);
+            Check.same("placeOf(0), always last", t.placeOf(0), i);
+        }
+        for (int i = 1; i < 12; i++) {
+            Check.same("placeOf " + i, t.placeOf(i), i - 1);
+        }
+    }
+
+    private static void givingKeepsTheRest() {
+        WhiteclothTable t = Tables.withBells(20, 21);
+        t.addPlayer(9, 0);
+        t.addPlayer(9, 0);
+        t.give(20, 0);
+        t.note(3, 20, 2, 's');
+        t.perform();
+        Check.same("give(20, 1)", t.give(20, 1), 0);
+        Check.same("strokesOf(20)", t.strokesOf(20), 3);
+        Check.same("notes()", t.notes(), 1);
+        Check.same("loadOf(0)", t.loadOf(0), 0);
+        Check.same("loadOf(1)", t.loadOf(1), 6);
+        Check.same("give(20, -1)", t.give(20, -1), 1);
+        Check.same("strokesOf(20)", t.strokesOf(20), 3);
+        Check.same("loadOf(1)", t.loadOf(1), 0);
+        Check.same("ownerOf(21)", t.ownerOf(21), -1);
+    }
+
+    private static void everyRest() {
+        WhiteclothTable t = new WhiteclothTable();
+        int before = 2;
+        for (int ticks = 0; ticks <= 8; ticks++) {
+            Check.same("setRest " + ticks, t.setRest(ticks), before);
+            Check.same("setRest again " + ticks, t.setRest(ticks), ticks);
+            Check.same("checksum() at rest " + ticks, t.checksum(), 7 * 31 + ticks);
+            before = ticks;
+        }
     }
 
     private static void swapping() {

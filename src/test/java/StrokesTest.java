@@ -9,7 +9,11 @@ final class StrokesTest {
         owners();
         plans();
         wear();
+        wornFromTwoHundredOn();
+        wornAmongOthers();
+        everyPitchServed();
         wornBellWithoutNotes();
+        refusedTillMended();
         Check.end("StrokesTest");
     }
 
@@ -92,6 +96,104 @@ final class StrokesTest {
         Check.same("serve(50)", t.serve(50), 200);
         Check.same("perform()", t.perform(), 1);
         Check.same("strokesOf(50)", t.strokesOf(50), 1);
+    }
+
+    /** A bell of 199 strokes can still be rung, whatever it comes to; one of 200 cannot. */
+    private static void wornFromTwoHundredOn() {
+        for (int rung = 197; rung <= 200; rung++) {
+            WhiteclothTable t = table();
+            for (int i = 0; i < 60; i++) {
+                t.note(3 * i, 50, 1, 's');
+            }
+            Check.same("perform()", t.perform(), 180);
+            while (t.notes() > 0) {
+                t.drop(0);
+            }
+            t.note(0, 50, 1, 'r');
+            for (int strokes = 180; strokes < rung; strokes++) {
+                Check.same("perform() at " + strokes, t.perform(), 1);
+            }
+            t.drop(0);
+            t.note(5, 50, 1, 's');
+            int then = rung < 200 ? rung + 3 : rung;
+            if (rung < 200) {
+                Check.same("perform() shaken at " + rung, t.perform(), 3);
+            }
+            Check.same("strokesOf(50)", t.strokesOf(50), then);
+            Check.fails(t, "perform() at " + then, UNSUPPORTED, () -> t.perform());
+            Check.same("strokesOf(50), refused", t.strokesOf(50), then);
+        }
+    }
+
+    /** One worn bell among others hinders all, and none of them gets a stroke. */
+    private static void wornAmongOthers() {
+        WhiteclothTable t = table();
+        for (int i = 0; i < 50; i++) {
+            t.note(2 * i, 55, 1, i < 25 ? 's' : 'r');
+        }
+        Check.same("perform()", t.perform(), 100);
+        t.note(200, 50, 1, 'r');
+        t.note(210, 59, 1, 's');
+        Check.same("perform() at 100", t.perform(), 104);
+        Check.same("strokesOf(55)", t.strokesOf(55), 200);
+        Check.fails(t, "perform()", UNSUPPORTED, () -> t.perform());
+        Check.same("strokesOf(50)", t.strokesOf(50), 1);
+        Check.same("strokesOf(59)", t.strokesOf(59), 3);
+        Check.same("serve(50), not the worn one", t.serve(50), 1);
+        Check.fails(t, "perform()", UNSUPPORTED, () -> t.perform());
+        Check.same("serve(55)", t.serve(55), 200);
+        Check.same("serve(55) again", t.serve(55), 0);
+        Check.same("perform(), served", t.perform(), 104);
+        Check.same("strokesOf(50)", t.strokesOf(50), 1);
+        Check.same("strokesOf(55)", t.strokesOf(55), 100);
+    }
+
+    private static void everyPitchServed() {
+        WhiteclothTable t = Tables.withAllBells();
+        t.addPlayer(9, 0);
+        for (int pitch = 0; pitch < 60; pitch++) {
+            t.give(pitch, 0);
+            t.note(6 * pitch, pitch, 1, pitch % 2 == 0 ? 's' : 'r');
+        }
+        Check.same("perform()", t.perform(), 120);
+        for (int pitch = 0; pitch < 60; pitch++) {
+            int due = pitch % 2 == 0 ? 3 : 1;
+            Check.same("strokesOf " + pitch, t.strokesOf(pitch), due);
+            Check.same("serve " + pitch, t.serve(pitch), due);
+            Check.same("strokesOf, served, " + pitch, t.strokesOf(pitch), 0);
+            Check.same("ownerOf, served, " + pitch, t.ownerOf(pitch), 0);
+        }
+    }
+
+    /** What hinders is mended one by one: nobody's bell, no plan, a worn bell. */
+    private static void refusedTillMended() {
+        WhiteclothTable t = table();
+        t.addPlayer(9, 0);
+        for (int i = 0; i < 60; i++) {
+            t.note(3 * i, 50, 1, 's');
+        }
+        t.perform();
+        t.perform();
+        for (int i = 0; i < 58; i++) {
+            t.drop(0);
+        }
+        t.note(300, 51, 5, 'r');
+        t.note(300, 52, 5, 'r');
+        t.note(300, 53, 5, 'r');
+        t.give(53, -1);
+        Check.fails(t, "perform() worn and nobody's", UNSUPPORTED, () -> t.perform());
+        t.give(53, 0);
+        Check.fails(t, "perform() worn and without a plan", UNSUPPORTED, () -> t.perform());
+        t.give(53, 1);
+        Check.fails(t, "perform() worn", UNSUPPORTED, () -> t.perform());
+        Check.same("serve(50)", t.serve(50), 360);
+        Check.same("perform()", t.perform(), 9);
+        t.give(53, 0);
+        Check.fails(t, "perform() without a plan", UNSUPPORTED, () -> t.perform());
+        t.give(53, -1);
+        Check.fails(t, "perform() of nobody's", UNSUPPORTED, () -> t.perform());
+        t.drop(4);
+        Check.same("perform(), the note dropped", t.perform(), 8);
     }
 
     private static void wornBellWithoutNotes() {

@@ -45,18 +45,21 @@ final class Check {
     /** The call must throw exactly this, and leave the table as it was. */
     static void fails(WhiteclothTable table, String name, Class<? extends RuntimeException> due, Call call) {
         long before = table.checksum();
-        asked++;
         String got = "nothing";
         try {
             call.run();
         } catch (RuntimeException e) {
-            got = e.getClass().getName();
+            got = thrown(e);
         }
-        if (!got.equals(due.getName())) {
-            wrong++;
-            System.out.println(name + " threw " + got + ", due is " + due.getName());
-        }
+        same(name, got, "throws." + due.getSimpleName());
         same(name + " leaves the checksum", table.checksum(), before);
+    }
+
+    /** The exception's name; with a mark if not the program threw it, but the machine or the library. */
+    static String thrown(RuntimeException e) {
+        StackTraceElement[] frames = e.getStackTrace();
+        boolean isOwn = frames.length > 0 && frames[0].getClassName().startsWith("WhiteclothTable");
+        return "throws." + e.getClass().getSimpleName() + (isOwn ? "" : ", and not by itself");
     }
 
     static void end(String test) {

@@ -61,7 +61,7 @@ final class Traces {
         try {
             return String.valueOf(call.get());
         } catch (RuntimeException e) {
-            return "throws." + e.getClass().getSimpleName();
+            return Check.thrown(e);
         }
     }
 

@@ -17,6 +17,7 @@ final class FullTest {
         sixtyBellsForOne();
         heldInARowOfTwelve();
         lastCallOf512();
+        askedOverAndOver();
         Check.end("FullTest");
     }
 
@@ -292,6 +293,23 @@ final class FullTest {
         Check.same("mostLate()", t.mostLate(), 13);
         Check.same("lateOf(13)", t.lateOf(13), 99);
         Check.same("lateOf(12)", t.lateOf(12), 53 + (53 + 70) / 3);
+    }
+
+    /** Asking changes nothing, however often: the last answer is the first one. */
+    private static void askedOverAndOver() {
+        WhiteclothTable sum = Tables.SMALL.make();
+        WhiteclothTable late = Tables.SMALL.make();
+        WhiteclothTable plan = Tables.SMALL.make();
+        WhiteclothTable many = Tables.SMALL.make();
+        long checksum = sum.checksum();
+        int lateOf = late.lateOf(1);
+        int handOf = plan.handOf(2);
+        for (int i = 0; i < 470; i++) {
+            Check.same("checksum()", sum.checksum(), checksum);
+            Check.same("lateOf(1)", late.lateOf(1), lateOf);
+            Check.same("handOf(2)", plan.handOf(2), handOf);
+            Check.same("notes()", many.notes(), 8);
+        }
     }
 
     /** The table still answers at its 512th call. */

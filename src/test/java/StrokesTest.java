@@ -13,6 +13,7 @@ final class StrokesTest {
         wornAmongOthers();
         everyPitchServed();
         wornBellWithoutNotes();
+        wornTillServed();
         refusedTillMended();
         Check.end("StrokesTest");
     }
@@ -194,6 +195,37 @@ final class StrokesTest {
         Check.fails(t, "perform() of nobody's", UNSUPPORTED, () -> t.perform());
         t.drop(4);
         Check.same("perform(), the note dropped", t.perform(), 8);
+    }
+
+    /** A worn bell that is put where it is, given or dealt is not served; one that is put there anew has no strokes. */
+    private static void wornTillServed() {
+        WhiteclothTable t = table();
+        t.addPlayer(9, 0);
+        for (int i = 0; i < 40; i++) {
+            t.note(2 * i, 50, 1, 's');
+        }
+        t.perform();
+        t.perform();
+        Check.yes("setBell(50, true), put there again", t.setBell(50, true));
+        Check.fails(t, "perform(), put there again", UNSUPPORTED, () -> t.perform());
+        t.give(50, -1);
+        t.give(50, 1);
+        Check.fails(t, "perform(), given to another", UNSUPPORTED, () -> t.perform());
+        t.deal();
+        Check.fails(t, "perform(), dealt", UNSUPPORTED, () -> t.perform());
+        t.give(51, 0);
+        t.transpose(1);
+        t.transpose(-1);
+        Check.fails(t, "perform(), notes moved away and back", UNSUPPORTED, () -> t.perform());
+        Check.same("strokesOf(50)", t.strokesOf(50), 240);
+        t.transpose(1);
+        t.setBell(50, false);
+        t.setBell(50, true);
+        t.transpose(-1);
+        Check.fails(t, "perform(), put there anew and nobody's", UNSUPPORTED, () -> t.perform());
+        t.give(50, 0);
+        Check.same("perform(), put there anew", t.perform(), 120);
+        Check.same("strokesOf(50), put there anew", t.strokesOf(50), 120);
     }
 
     private static void wornBellWithoutNotes() {
